@@ -567,6 +567,7 @@ public final class PepperYears {
         private final Tape tape;
         private final int[] starts = new int[TAPE_ROOM];
         private final int[] stops = new int[TAPE_ROOM];
+        private final int[] kinds = new int[TAPE_ROOM];
         private int tokens;
         private int token;
 
@@ -595,6 +596,7 @@ public final class PepperYears {
                 boolean inRow = kind == last && kind != Tape.OTHER;
                 if (kind != Tape.BLANK && !inRow) {
                     starts[tokens] = place;
+                    kinds[tokens] = kind;
                     tokens++;
                 }
                 if (kind != Tape.BLANK && tokens > 0) {
@@ -679,7 +681,7 @@ public final class PepperYears {
         }
 
         private int numberHere() {
-            if (token >= tokens || tape.kindAt(starts[token]) != Tape.DIGIT) {
+            if (token >= tokens || kinds[token] != Tape.DIGIT) {
                 return NONE;
             }
             int number = 0;

@@ -352,6 +352,7 @@ public final class PromisesTest {
         Checks.good(x, "  part  0  of  1  ;  free  007  ", 2);
         Checks.good(x, "part 10000 of 10000", 1);
         Checks.good(x, "vines 10000 each 10000 from 0", 1);
+        Checks.good(x, "vines 1 each 0", 1);
         Checks.good(x, "most 00000000000000000000000000000000000000000000000000000000000000012", 1);
         Checks.good(x, "most1;".repeat(19) + "most1", 20);
         due("15: TITHES stay when the next are wrong", x.tithe(1, 1, 0), 0);
@@ -369,6 +370,9 @@ public final class PromisesTest {
         Checks.bad(x, "tree", 0);
         Checks.bad(x, "  partx 1 of 2", 2);
         Checks.bad(x, "Part 1 of 2", 0);
+        Checks.bad(x, "partz 1 of 2", 0);
+        Checks.bad(x, "part 1a of 2", 6);
+        Checks.bad(x, "part 1 of 2{", 11);
         Checks.bad(x, "par t 1 of 2", 0);
         Checks.bad(x, ";", 0);
         Checks.bad(x, "7", 0);
@@ -795,6 +799,14 @@ public final class PromisesTest {
         due("26: most piculs", y.count(7), 4_680_000);
         due("26: all in stock", y.stock(0, NONE), 4_680_000);
         PepperYears z = new PepperYears();
+        z.bears(0, 1);
+        z.garden(100, 0);
+        z.go(1);
+        due("26: one picul, a lot", z.count(4), 1);
+        z.advance(0, 1, 0, 0, 0);
+        due("26: one picul, brought", z.bring(0), 1);
+        due("26: a lot that is used up", z.count(4), 1);
+        z = new PepperYears();
         z.ratio(0, 1);
         z.bears(0, 1);
         z.garden(100, 0);
