@@ -729,7 +729,8 @@ public final class PepperYears {
         private static final int RENEW = 3;
 
         final int[] deeds = new int[MOST_YEARS_AHEAD];
-        int years;
+        /** How many the latest PLAN has; NONE ahead of any, as a PLAN of no YEARS can't be. */
+        int years = NONE;
         private final int[] choices = new int[MOST_YEARS_AHEAD * STATES];
         private final long[] gains = new long[STATES];
         private final long[] worths = new long[STATES];

@@ -34,7 +34,7 @@ final class PlainModel {
     private String tape = "";
     private List<String[]> tithes = new ArrayList<>();
     private int fault = -1;
-    private Plan latest = new Plan(0, List.of());
+    private Plan latest;
     private int keep = 1;
     private int cost = 5;
     private int now = 0;
@@ -381,6 +381,9 @@ final class PlainModel {
     }
 
     int planned(int i) {
+        if (latest == null) {
+            return -1;
+        }
         return i == -1 ? latest.deeds.size() : out(i, 0, latest.deeds.size() - 1) ? -1 : latest.deeds.get(i);
     }
 

@@ -62,7 +62,7 @@ public final class PromisesTest {
         }
         due("1: status()", x.status(), 0);
         due("1: fault()", x.fault(), NONE);
-        due("1: planned(-1)", x.planned(-1), 0);
+        due("1: planned(-1)", x.planned(-1), NONE);
         due("1: planned(0)", x.planned(0), NONE);
         due("1: of(0, 0)", x.of(0, 0), NONE);
         due("1: tithe", x.tithe(2000, 24, 100_000_000), 0);
@@ -566,10 +566,16 @@ public final class PromisesTest {
     // Promise 19
     private static void planned() {
         PepperYears x = simple(100);
-        due("19: none yet", x.planned(-1), 0);
+        due("19: none yet", x.planned(-1), NONE);
         due("19: none yet", x.planned(0), NONE);
+        due("19: none yet", x.planned(-2), NONE);
         x.garden(100, 1);
         x.garden(100, NONE);
+        x.plan(2, 5);
+        due("19: none yet behind a GARDEN that can't be", x.planned(-1), NONE);
+        x.plan(0, 0);
+        due("19: none yet behind YEARS that can't be", x.planned(-1), NONE);
+        due("19: none yet behind YEARS that can't be", x.planned(0), NONE);
         x.plan(0, 5);
         due("19: how many", x.planned(-1), 5);
         int[] want = {0, 0, 0, 3, 0};
