@@ -1,13 +1,20 @@
 import java.nio.charset.StandardCharsets;
 import java.util.Arrays;
+import java.util.function.IntToLongFunction;
 
 /** What the project's tests share: a count of wrong answers, and feeding a text to the TAPE. */
 final class Checks {
     private static final int TOLD_AT_MOST = 40;
     private static int asked = 0;
     private static int wrong = 0;
+    private static String sentence = "";
 
     private Checks() {
+    }
+
+    /** The document's sentence that the answers looked at from here on belong to. */
+    static void sentence(String words) {
+        sentence = "[" + words + "] ";
     }
 
     static void due(String call, long got, long want) {
@@ -15,8 +22,18 @@ final class Checks {
         if (got != want) {
             wrong++;
             if (wrong <= TOLD_AT_MOST) {
-                System.out.println(call + " answered " + got + ", due is " + want);
+                System.out.println(sentence + call + " answered " + got + ", due is " + want);
             }
+        }
+    }
+
+    /** A number from least to most is taken at both edges, one beside them or far outside is not. */
+    static void range(String number, IntToLongFunction call, int least, int most, long taken, long not) {
+        for (int n : new int[] {least, (least + most) / 2, most}) {
+            due(number + " " + n, call.applyAsLong(n), taken);
+        }
+        for (int n : new int[] {least - 1, most + 1, Integer.MIN_VALUE, Integer.MAX_VALUE}) {
+            due(number + " " + n, call.applyAsLong(n), not);
         }
     }
 
@@ -24,7 +41,7 @@ final class Checks {
         asked++;
         if (!isSo) {
             wrong++;
-            System.out.println("does not hold: " + what);
+            System.out.println(sentence + "does not hold: " + what);
         }
     }
 
