@@ -32,7 +32,9 @@ public final class LanguageTest {
             inside(inside);
         }
         sizes();
-        source(args.length > 0 ? args[0] : "src/main/java/PepperYears.java");
+        String path = args.length > 0 ? args[0] : "src/main/java/PepperYears.java";
+        source(path);
+        methods(Files.readAllLines(Path.of(path), StandardCharsets.ISO_8859_1));
         Checks.finish();
     }
 
@@ -122,5 +124,43 @@ public final class LanguageTest {
                 return;
             }
         }
+    }
+
+    // Rules 11, 12
+    private static void methods(List<String> lines) {
+        Pattern header = Pattern.compile("( {4}| {8})(?! )[^=;/*]*?(\\w+)\\(.*");
+        int found = 0;
+        for (int i = 0; i < lines.size(); i++) {
+            Matcher m = header.matcher(lines.get(i));
+            if (m.matches() && opensMethod(lines.get(i))) {
+                int length = lines.subList(i, lines.size()).indexOf(m.group(1) + "}");
+                Checks.holds(m.group(2) + " has at most sixty lines", length >= 0 && length < 60);
+                makesNothing(m.group(2), lines.subList(i, i + Math.max(length, 0)));
+                i += Math.max(length, 0);
+                found++;
+            }
+        }
+        Checks.holds("each method was looked at", found >= methodsInAll());
+    }
+
+    private static boolean opensMethod(String line) {
+        return !line.matches("\\s*(if|for|while|switch|return|\\}).*") && !line.endsWith(";");
+    }
+
+    /** All calls of a run share one room, so that rows are made in constructors alone. */
+    private static void makesNothing(String name, List<String> lines) {
+        boolean isConstructor = Character.isUpperCase(name.charAt(0));
+        for (String line : lines) {
+            boolean makes = line.replaceFirst("//.*", "").matches(".*\\bnew\\b.*");
+            Checks.holds(name + " makes no object: " + line, isConstructor || !makes);
+        }
+    }
+
+    private static int methodsInAll() {
+        int sum = PepperYears.class.getDeclaredMethods().length;
+        for (Class<?> inside : PepperYears.class.getDeclaredClasses()) {
+            sum += inside.getDeclaredMethods().length;
+        }
+        return sum;
     }
 }
